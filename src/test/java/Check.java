@@ -31,6 +31,10 @@ final class Check {
         return wrong;
     }
 
+    int checkedCount() {
+        return checked;
+    }
+
     /** Appends the characters one by one; each must be taken. */
     void type(DraftSurvey x, String text) {
         due("clearBuffer() before " + text, x.clearBuffer(), 0);
